@@ -813,10 +813,8 @@ public final class DippedWaves {
         }
 
         void giveBack(Tank tank) {
-            if (many > 0) {
-                many--;
-                tank.become(states[many]);
-            }
+            many--;
+            tank.become(states[many]);
         }
     }
 }

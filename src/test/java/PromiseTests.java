@@ -428,6 +428,24 @@ public final class PromiseTests {
         Due.due("above STILL now or ahead", 6, w.pass(1));
         Due.due("the still ones", 53, w.count(2));
         twoHeightsAtOnce();
+        lastTick();
+    }
+
+    /** So far as the document promises, no object lives to see this: it takes more than 512 calls. */
+    private static void lastTick() {
+        DippedWaves w = new DippedWaves();
+        for (int i = 0; i < 999; i++) {
+            w.pass(100);
+        }
+        w.pass(99);
+        int undone = w.count(14);
+        Due.due("one beyond the last tick", TOO_MANY, w.pass(2));
+        Due.due("no change", undone, w.count(14));
+        Due.due("bad and beyond", BAD_VALUE, w.pass(101));
+        Due.due("up to the last tick", 0, w.pass(1));
+        Due.due("the last tick", 100000, w.count(0));
+        Due.due("beyond the last tick", TOO_MANY, w.pass(1));
+        Due.due("a look beyond it", 10000, w.ifPassed(0, 0, 60));
     }
 
     private static void twoHeightsAtOnce() {
@@ -478,7 +496,14 @@ public final class PromiseTests {
         Due.due("-40 * 7 / 16 / 2", 9992, w.cell(1, 3, 1));
         greatHeights(999, 19999, 18749);
         greatHeights(-999, 1, 1251);
+        DippedWaves rubbed = calmed(500);
+        rubbed.set(DippedWaves.DEEP, 1);
+        for (int i = 0; i < 11; i++) {
+            rubbed.drop(7, 3, 999);
+        }
+        Due.due("17499 - 17499 * 500 / 1000", 18750, rubbed.ifPassed(7, 3, 1));
         cornersAndWalls();
+        allSides();
         aheadCounts();
     }
 
@@ -512,6 +537,24 @@ public final class PromiseTests {
         Due.due("beyond the walls", 10000, w.cell(7, 3, 1));
         Due.due("a wall", 10000, w.cell(4, 3, 1));
         Due.due("no way round the edge", 10000, w.cell(9, 1, 1));
+    }
+
+    private static void allSides() {
+        DippedWaves w = calmed(0);
+        int[][] sides = {{1, 0}, {-1, 0}, {0, 1}, {0, -1}};
+        for (int y = 0; y < 6; y++) {
+            for (int x = 0; x < 10; x++) {
+                w.drop(x, y, 1);
+                int many = 0;
+                for (int[] side : sides) {
+                    int slope = w.cell(x + side[0], y + side[1], 3);
+                    Due.holds("a side of " + x + ", " + y, slope == 100001 || slope == NO_SUCH);
+                    many += slope == NO_SUCH ? 0 : 1;
+                }
+                Due.due("the slope of " + x + ", " + y, 100000 - many, w.cell(x, y, 3));
+                w.drop(x, y, -1);
+            }
+        }
     }
 
     private static void aheadCounts() {
@@ -645,9 +688,21 @@ public final class PromiseTests {
         w.pass(1);
         Due.due("the greatest with a high one", 10050, w.ofProbe(0, 4));
         Due.due("six", 6, w.ofProbe(0, 2));
+        w.pass(4);
+        for (int i = 0; i < 7; i++) {
+            Due.due("the greatest does not lessen", 10050, w.ofProbe(0, 4));
+            w.pass(1);
+        }
+        w.clear();
+        w.pass(5);
+        Due.due("low ones again", 9950, w.ofProbe(0, 4));
+        w.pass(1);
+        Due.due("the greatest is the latest", 10050, w.ofProbe(0, 4));
         w.takeOut(0);
         w.set(DippedWaves.RUB, 500);
-        w.pass(18);
+        w.pass(1);
+        Due.due("the greatest is the one before", 10050, w.ofProbe(0, 4));
+        w.pass(17);
         Due.due("kept as the oldest but a few", 10050, w.ofProbe(0, 4));
         w.pass(5);
         Due.due("24", 24, w.ofProbe(0, 2));
@@ -760,6 +815,20 @@ public final class PromiseTests {
         w = new DippedWaves();
         w.drop(3, 3, 9);
         Due.due("a drop is no wave", 0, w.count(6));
+        w = new DippedWaves();
+        for (int y = 0; y < 6; y++) {
+            for (int x = 0; x < 10; x++) {
+                w.drop(x, y, 10 * y - 100 * (x % 2) - 6);
+            }
+        }
+        Due.due("the sum of all", 1000000 + 1500 - 3000 - 360, w.count(3));
+        Due.due("without their signs", 5 * (6 + 4 + 14 + 24 + 34 + 44) + 5 * (106 + 96 + 86 + 76 + 66 + 56), w.count(4));
+        w.clear();
+        for (int at = 0; at < 60; at++) {
+            w.drop(at % 10, at / 10, 6);
+        }
+        w.pass(1);
+        Due.due("a wave has come to all", 60, w.count(6));
     }
 
     // ---- 16
@@ -782,6 +851,12 @@ public final class PromiseTests {
         w.drop(2, 5, -3);
         Due.due("x of a low one", 2, w.loudest(0));
         Due.due("y of a low one", 5, w.loudest(1));
+        for (int at = 59; at >= 0; at--) {
+            w.clear();
+            w.drop(at % 10, at / 10, at - 30 == 0 ? 1 : at - 30);
+            Due.due("x of the only one", at % 10, w.loudest(0));
+            Due.due("y of the only one", at / 10, w.loudest(1));
+        }
     }
 
     // ---- 17
@@ -810,7 +885,13 @@ public final class PromiseTests {
         w.drop(6, 2, -9);
         w.drop(8, 2, -9);
         Due.due("below 0, above both", 3, w.crests(2));
+        w.drop(7, 2, 5);
+        Due.due("0, above both", 3, w.crests(2));
         Due.due("the rows beside", 0, w.crests(1) + w.crests(3));
+        w.drop(3, 0, 5);
+        w.drop(6, 5, 5);
+        Due.due("the first row", 1, w.crests(0));
+        Due.due("the last row", 1, w.crests(5));
     }
 
     // ---- 18
@@ -1230,7 +1311,14 @@ public final class PromiseTests {
             Due.due("number " + i, before[i], behind[i]);
         }
         w.pass(4);
+        w.wipe();
+        type(w, MIXED);
+        w.read();
+        w.probe(7, 0);
+        w.dip(7, 0, 3, 3, 0);
         Due.due("it is kept in the slot", 26, w.restore(0));
+        Due.due("with the probe's column", 4, w.ofProbe(0, 0));
+        Due.due("with the probe's row", 4, w.ofProbe(0, 1));
         Due.due("and again", 26, w.restore(0));
     }
 
