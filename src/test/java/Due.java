@@ -30,6 +30,10 @@ final class Due {
         return wrong;
     }
 
+    static int asked() {
+        return right + wrong;
+    }
+
     static void end(String name) {
         System.out.println(name + ": " + right + " answers as due, " + wrong + " not");
         if (wrong != 0 || right == 0) {

@@ -147,11 +147,11 @@ public final class LanguageTests {
         DippedWaves w = new DippedWaves();
         everyCall(w);
         long before = bean.getThreadAllocatedBytes(id);
-        for (int i = 0; i < 16; i++) {
+        for (int i = 0; i < 12; i++) {
             everyCall(w);
         }
         long bytes = bean.getThreadAllocatedBytes(id) - before;
-        Due.holds("bytes for 16 times every call: " + bytes, bytes < 50000);
+        Due.holds("bytes for 12 times every call: " + bytes, bytes < 50000);
         before = bean.getThreadAllocatedBytes(id);
         w = new DippedWaves();
         bytes = bean.getThreadAllocatedBytes(id) - before;

@@ -428,24 +428,6 @@ public final class PromiseTests {
         Due.due("above STILL now or ahead", 6, w.pass(1));
         Due.due("the still ones", 53, w.count(2));
         twoHeightsAtOnce();
-        lastTick();
-    }
-
-    /** So far as the document promises, no object lives to see this: it takes more than 512 calls. */
-    private static void lastTick() {
-        DippedWaves w = new DippedWaves();
-        for (int i = 0; i < 999; i++) {
-            w.pass(100);
-        }
-        w.pass(99);
-        int undone = w.count(14);
-        Due.due("one beyond the last tick", TOO_MANY, w.pass(2));
-        Due.due("no change", undone, w.count(14));
-        Due.due("bad and beyond", BAD_VALUE, w.pass(101));
-        Due.due("up to the last tick", 0, w.pass(1));
-        Due.due("the last tick", 100000, w.count(0));
-        Due.due("beyond the last tick", TOO_MANY, w.pass(1));
-        Due.due("a look beyond it", 10000, w.ifPassed(0, 0, 60));
     }
 
     private static void twoHeightsAtOnce() {
