@@ -2,6 +2,7 @@ import java.util.ArrayList;
 import java.util.HashSet;
 import java.util.List;
 import java.util.Set;
+import java.util.regex.Pattern;
 
 /**
  * What the tests of boundary cases share. Each such test bears a name that tells which promise and which case it is,
@@ -56,19 +57,100 @@ abstract class Boundary {
         test(name, () -> {
             nothingChanges(made, call, error);
             DippedWaves asked = tank(made);
-            DippedWaves spared = tank(made);
             Due.due("the call", error, call.on(asked));
-            int[] want = later(spared);
-            int[] got = later(asked);
-            for (int i = 0; i < want.length; i++) {
-                Due.due("later answer " + i, want[i], got[i]);
+            sameLater(tank(made), asked);
+        });
+    }
+
+    /** A question that is answered, and changes nothing that can be told, at once or later. */
+    static void unchanging(String name, Steps made, Call question) {
+        test(name, () -> {
+            nothingChanges(made, question, question.on(tank(made)));
+            DippedWaves asked = tank(made);
+            question.on(asked);
+            sameLater(tank(made), asked);
+        });
+    }
+
+    /** A call that is good, behind which these questions alone, by their names, may be answered in another way. */
+    static void nothingElse(String name, Steps made, Call call, String others) {
+        test(name, () -> {
+            Pattern may = Pattern.compile(others);
+            for (int from = 0; from < QUESTIONS.size(); from += SLICE) {
+                DippedWaves w = tank(made);
+                int[] before = answers(w, from);
+                Due.holds("the call answers no error", call.on(w) >= 0);
+                int[] behind = answers(w, from);
+                for (int i = 0; i < before.length; i++) {
+                    String question = QUESTIONS.get(from + i).name();
+                    if (!may.matcher(question).matches()) {
+                        Due.due(question + " then", before[i], behind[i]);
+                    }
+                }
             }
         });
     }
 
-    /** A question that is answered, and changes nothing that can be told. */
-    static void unchanging(String name, Steps made, Call question) {
-        test(name, () -> nothingChanges(made, question, question.on(tank(made))));
+    /** Behind these steps nothing is told in another way than without them: the pad, the slots and the history, too. */
+    static void noTrace(String name, Steps made, Steps more) {
+        test(name, () -> {
+            alike(made, w -> {
+                made.on(w);
+                more.on(w);
+            });
+            DippedWaves w = tank(made);
+            more.on(w);
+            sameLater(tank(made), w);
+        });
+    }
+
+    /**
+     * Behind this question all are answered as without it, also when changes come between. Each is asked on a new object
+     * that is asked nothing else: what a question would change can't be hidden by the like of it.
+     */
+    static void spares(String name, Steps made, Call question) {
+        test(name, () -> {
+            int answer = question.on(tank(made));
+            Due.holds("the question answers no error", answer >= 0 || answer == NONE);
+            for (Question other : QUESTIONS) {
+                spared(other.name(), made, question, other.call());
+            }
+            for (int undone = 1; undone <= 6; undone++) {
+                int many = undone;
+                for (int what : new int[] {0, 4}) {
+                    spared("count(" + what + ") and " + undone + " undone", made, question, w -> {
+                        for (int i = 0; i < many; i++) {
+                            w.undo();
+                        }
+                        return w.count(what);
+                    });
+                }
+            }
+            for (int slot = 0; slot <= 1; slot++) {
+                int asked = slot;
+                for (int what : new int[] {0, 4}) {
+                    spared("count(" + what + ") and restored " + slot, made, question, w -> {
+                        w.restore(asked);
+                        return w.count(what);
+                    });
+                }
+            }
+            for (int at = 0; at < 60; at++) {
+                int place = at;
+                spared("floor " + at + " and read", made, question, w -> {
+                    type(w, MIXED.substring(w.count(13)));
+                    w.read();
+                    return w.cell(place % 10, place / 10, 0);
+                });
+            }
+        });
+    }
+
+    private static void spared(String name, Steps made, Call question, Call other) {
+        int want = other.on(tank(made));
+        DippedWaves w = tank(made);
+        question.on(w);
+        Due.due(name + " then", want, other.on(w));
     }
 
     /** A change is recorded, and undo brings all back that questions tell. */
@@ -299,6 +381,14 @@ abstract class Boundary {
     private static void compare(int from, int[] want, int[] got) {
         for (int i = 0; i < want.length; i++) {
             Due.due(QUESTIONS.get(from + i).name() + " then", want[i], got[i]);
+        }
+    }
+
+    private static void sameLater(DippedWaves spared, DippedWaves asked) {
+        int[] want = later(spared);
+        int[] got = later(asked);
+        for (int i = 0; i < want.length; i++) {
+            Due.due("later answer " + i, want[i], got[i]);
         }
     }
 

@@ -87,6 +87,8 @@ public final class ChangesBoundaryTests extends Boundary {
                 w -> w.set(setting, w.count(9 + setting)));
             recorded(name + "another value is a change", Boundary::rich, w -> w.set(setting, most));
         }
+        good("promise 2, set: SHALLOW may be above DEEP", w -> w.set(DEEP, 1), 3, w -> w.set(SHALLOW, 8));
+        good("promise 2, set: DEEP may be below SHALLOW", w -> w.set(SHALLOW, 8), 8, w -> w.set(DEEP, 1));
         for (int setting : new int[] {-1, 4, Integer.MIN_VALUE, Integer.MAX_VALUE}) {
             refused("promise 2, set: no setting " + setting, Boundary::rich, BAD_VALUE, w -> w.set(setting, 5));
             refused("promise 2, set: no setting " + setting + ", and no value", Boundary::rich, BAD_VALUE,

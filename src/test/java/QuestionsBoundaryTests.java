@@ -485,6 +485,9 @@ public final class QuestionsBoundaryTests extends Boundary {
             w -> w.comes(5, 3));
         good("promise 19, comes: a dipper just above STILL counts at once", w -> w.dip(5, 3, 4, 6, 0), 1,
             w -> w.comes(5, 3));
+        beatsFrom("the tick 0: the dipper is down", 0, 3);
+        beatsFrom("the tick 20: the dipper is up", 20, 2);
+        beatsFrom("the tick 40: the dipper is down again", 40, 3);
         good("promise 19, comes: a wall stays still", w -> {
             w.floor(5, 3, 2);
             w.dip(5, 2, 4, 900, 0);
@@ -492,6 +495,30 @@ public final class QuestionsBoundaryTests extends Boundary {
         unchanging("promise 19, comes: a wave that comes changes nothing", w -> w.dip(5, 3, 4, 900, 0),
             w -> w.comes(0, 0));
         unchanging("promise 19, comes: 80 ticks change nothing", Boundary::fiveDippers, w -> w.comes(3, 1));
+    }
+
+    /** Behind two ticks the drop's cell has a height of 575 beside a dipper that is up, of -325 beside one that is down. */
+    private static void beatsFrom(String name, int tick, int want) {
+        test("promise 19, comes: from the present tick on: " + name, () -> {
+            DippedWaves w = new DippedWaves();
+            if (tick > 0) {
+                w.pass(tick);
+            }
+            channel(w);
+            w.set(STILL, 450);
+            w.dip(5, 3, 40, 900, 0);
+            w.drop(6, 3, 100);
+            Due.due("the call", want, w.comes(6, 3));
+        });
+    }
+
+    /** Two cells, 5, 3 and 6, 3, with walls around them, where no height is lost. */
+    private static void channel(DippedWaves w) {
+        w.set(RUB, 0);
+        int[][] walls = {{4, 3}, {5, 2}, {5, 4}, {7, 3}, {6, 2}, {6, 4}};
+        for (int[] wall : walls) {
+            w.floor(wall[0], wall[1], 2);
+        }
     }
 
     /** A pool in which the height grows by the same in each tick, with STILL 500. */
@@ -557,6 +584,15 @@ public final class QuestionsBoundaryTests extends Boundary {
             w.dip(5, 3, 6, 100, 5);
             w.dip(5, 3, 6, 70, 0);
         }, 70, w -> w.hush(0, 5, 3, 4, 1));
+        test("promise 20, hush: a dipper that another one hides: beside it all shifts are alike, too", () -> {
+            DippedWaves w = new DippedWaves();
+            w.dip(5, 3, 6, 100, 5);
+            w.dip(5, 3, 6, 70, 0);
+            int height = Math.abs(w.ifPassed(6, 3, 4) - 10000);
+            Due.due("the shift", 0, w.hush(0, 6, 3, 4, 0));
+            Due.due("the height", height, w.hush(0, 6, 3, 4, 1));
+            Due.holds("the other one would be less loud with another shift", w.hush(1, 6, 3, 4, 1) < height);
+        });
         test("promise 20, hush: 30 ticks are good, and as 30 ticks pass", () -> {
             DippedWaves w = tank(Boundary::rich);
             int shift = w.hush(0, 4, 2, 30, 0);
@@ -580,12 +616,7 @@ public final class QuestionsBoundaryTests extends Boundary {
     /** A channel of two cells, a dipper in the one, a drop in the other: how loud is that one behind some ticks? */
     private static void hushed(String name, int drop, int period, int ticks, int shift, int height) {
         test("promise 20, hush: " + name, () -> {
-            DippedWaves w = new DippedWaves();
-            w.set(RUB, 0);
-            int[][] walls = {{4, 3}, {5, 2}, {5, 4}, {7, 3}, {6, 2}, {6, 4}};
-            for (int[] wall : walls) {
-                w.floor(wall[0], wall[1], 2);
-            }
+            DippedWaves w = tank(QuestionsBoundaryTests::channel);
             w.dip(5, 3, period, 900, period / 3);
             w.drop(6, 3, drop);
             Due.due("the shift", shift, w.hush(0, 6, 3, ticks, 0));

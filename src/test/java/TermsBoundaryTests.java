@@ -140,6 +140,12 @@ public final class TermsBoundaryTests extends Boundary {
             w.floor(5, 3, 2);
             Due.due("first tick", 0, w.cell(5, 3, 5));
         });
+        test("Terms, walls: a first tick stays when a wall is laid on the wall", () -> {
+            DippedWaves w = pooled(40, 70);
+            w.floor(5, 3, 2);
+            w.floor(5, 3, 2);
+            Due.due("first tick", 0, w.cell(5, 3, 5));
+        });
         test("Terms, walls: a first tick stays when its cell was one for some ticks", () -> {
             DippedWaves w = pooled(40, 70);
             w.floor(5, 3, 2);

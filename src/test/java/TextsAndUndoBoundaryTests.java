@@ -354,8 +354,8 @@ public final class TextsAndUndoBoundaryTests extends Boundary {
             int asked = slot;
             good("promise 25, save: the slot " + slot + " is good", Boundary::rich, 22, w -> w.save(asked));
             good("promise 25, save: a new object, slot " + slot, Boundary::fresh, 0, w -> w.save(asked));
-            unchanging("promise 25, save: nothing is different in the tank, slot " + slot, Boundary::rich,
-                w -> w.save(asked));
+            nothingElse("promise 25, save: nothing is different in the tank, slot " + slot, Boundary::rich,
+                w -> w.save(asked), "");
             good("promise 25, save: the other slot stays empty, not " + slot, w -> w.save(asked), NOT_POSSIBLE,
                 w -> w.restore(1 - asked));
         }
